@@ -1,0 +1,166 @@
+/** Promises 39 to 43. */
+final class ImagesTest {
+    private static final Due due = new Due();
+
+    public static void main(String[] args) {
+        imageAndUndo();
+        theLatest();
+        whatIsNotKept();
+        tear();
+        count();
+        status();
+        due.end();
+    }
+
+    private static void imageAndUndo() {
+        due.refuses("undo() of nothing", Due.NONE, Scenes::nothing, MothTongue::undo);
+        due.refuses("undo() of what is torn", Due.NONE, x -> {
+            Scenes.busy(x);
+            x.tear();
+        }, MothTongue::undo);
+        MothTongue x = Due.made(Scenes::busy);
+        MothTongue twin = Due.made(Scenes::busy);
+        due.is("image()", x.image(), 1);
+        change(x);
+        due.is("undo() answers NIGHT", x.undo(), 2);
+        twin.image();
+        due.isTrue("all is as it was kept", Observed.of(x).equals(Observed.of(twin)));
+
+        // It stays, and what comes later doesn't touch it.
+        x = Due.made(Scenes::busy);
+        twin = Due.made(Scenes::busy);
+        x.image();
+        twin.image();
+        for (int i = 0; i < 3; i++) {
+            change(x);
+            due.is("undo() again", x.undo(), 2);
+        }
+        due.isTrue("all is as it was kept, again", Observed.of(x).equals(Observed.of(twin)));
+    }
+
+    /** Something else of everything that an image keeps. */
+    private static void change(MothTongue x) {
+        x.word(4, 4, 4);
+        x.copied(4, 0);
+        x.moth(6, 5);
+        for (int what = 0; what < 4; what++) {
+            x.change(0, what, 3);
+        }
+        x.hold(3, 1);
+        x.hold(4, 1);
+        x.hold(9, -1);
+        x.seed(-5);
+        x.go(7);
+        x.lights(3);
+    }
+
+    private static void theLatest() {
+        MothTongue x = new MothTongue();
+        x.word(0, 0, 1);
+        x.image();
+        x.word(0, 0, 2);
+        x.go(1);
+        x.image();
+        x.word(0, 0, 3);
+        due.is("undo()", x.undo(), 1);
+        due.is("reads(0, 0)", x.reads(0, 0), 2);
+        due.is("undo()", x.undo(), 1);
+        due.is("reads(0, 0)", x.reads(0, 0), 2);
+    }
+
+    private static void whatIsNotKept() {
+        MothTongue x = new MothTongue();
+        Scenes.tape(x, "page 1 4");
+        Scenes.sheet(x, 0, 8, 7);
+        x.image();
+        x.wipe();
+        Scenes.tape(x, "page 1 56");
+        Scenes.sheet(x, 0, 8, 8, 9);
+        x.sheet(1, 8, 2);
+        x.reads(9, 9);
+        x.undo();
+        due.is("the tape stays", x.count(5), 9);
+        due.is("text()", x.text(), -8);
+        due.is("sheet 0 stays", x.load(0), 2);
+        due.is("reads(0, 0)", x.reads(0, 0), 8);
+        due.is("sheet 1 stays", x.judge(1), 1);
+        due.is("status stays", x.status(0), 1);
+    }
+
+    private static void tear() {
+        MothTongue x = new MothTongue();
+        due.is("tear()", x.tear(), 0);
+        x.image();
+        x.image();
+        x.word(0, 0, 5);
+        due.is("tear()", x.tear(), 1);
+        due.is("tear()", x.tear(), 0);
+        due.is("undo()", x.undo(), Due.NONE);
+        due.is("reads(0, 0)", x.reads(0, 0), 5);
+        x.image();
+        due.is("undo()", x.undo(), 0);
+        due.is("reads(0, 0)", x.reads(0, 0), 5);
+        due.is("status(3)", x.status(3), 1);
+    }
+
+    private static void count() {
+        Due.Scene scene = x -> {
+            Scenes.page(x, 0, 1, 2, 3);
+            Scenes.page(x, 5, 0, 0, 0, 0, 0, 0, 0, 9);
+            Scenes.moth(x, 0, 0, 9, 10);
+            Scenes.moth(x, 5, 3, 9, 20);
+            x.go(4);
+            x.seed(-9);
+            x.hold(1, 0);
+            x.hold(2, 0);
+            x.hold(3, 1);
+            Scenes.tape(x, "moth");
+        };
+        int[] want = {4, 2, 44, 30, 1 + 4 + 9 + 72, 4, -9, 3};
+        for (int what = 0; what < want.length; what++) {
+            int w = what;
+            due.looks("count(" + what + ")", want[what], scene, x -> x.count(w));
+        }
+        for (int what : new int[] {-1, 8, Integer.MIN_VALUE, Integer.MAX_VALUE}) {
+            due.refuses("count(" + what + ")", Due.BEYOND, Scenes::busy, x -> x.count(what));
+        }
+    }
+
+    private static void status() {
+        MothTongue x = new MothTongue();
+        x.sheet(0, 8, 1);
+        x.sheet(1, 16, 1);
+        x.go(0);
+        x.odds(24, 0);
+        x.moth(9, 0);
+        for (int i = 0; i < 10; i++) {
+            x.moth(0, 0);
+        }
+        x.copy(0, 0, 1, 0, 1);
+        x.undo();
+        x.load(2);
+        x.as(0, 0);
+        x.judge(3);
+        x.sheet(0, 8, -1);
+        int[] want = {3, 2, 1, 1, 0, 3, 1};
+        int all = 0;
+        for (int which = 0; which < 7; which++) {
+            due.is("status(" + which + ")", x.status(which), want[which]);
+            all += want[which];
+        }
+        due.is("status(-1)", x.status(-1), all);
+        x.text();
+        due.is("a FAULT is no finding", x.status(-1), all);
+        x.image();
+        due.is("status(7)", x.status(7), Due.BEYOND);
+        due.is("counted from then on", x.status(0), 4);
+        due.is("status(-2)", x.status(-2), Due.BEYOND);
+        x.undo();
+        due.is("undo() takes none back", x.status(0), 5);
+        due.is("all", x.status(-1), all + 2);
+        for (int which : new int[] {-2, 7, Integer.MIN_VALUE, Integer.MAX_VALUE}) {
+            due.refuses("status(" + which + ")", Due.BEYOND, Scenes::busy, y -> y.status(which));
+        }
+        due.looks("status(5)", 0, Scenes::busy, y -> y.status(5));
+    }
+}

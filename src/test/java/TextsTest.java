@@ -1,0 +1,249 @@
+/** Promises 29 to 31. */
+final class TextsTest {
+    private static final Due due = new Due();
+
+    public static void main(String[] args) {
+        feed();
+        wipe();
+        moths();
+        pages();
+        tokens();
+        faultsOfMoths();
+        faultsOfPages();
+        ninthMoth();
+        faultChangesNothing();
+        longest();
+        due.end();
+    }
+
+    private static void feed() {
+        MothTongue x = new MothTongue();
+        due.is("feed 4", x.feed('m' << 24 | 'o' << 16 | 't' << 8 | 'h', 4), 4);
+        due.is("the lowest 1", x.feed(0x41424300 | ' ', 1), 5);
+        due.is("the lowest 2", x.feed(0x41420000 | 'o' << 8 | 'n', 2), 7);
+        due.is("the lowest 3", x.feed(0x41000000 | ' ' << 16 | ' ' << 8 | '4', 3), 10);
+        due.is("count(5)", x.count(5), 10);
+        due.is("text()", x.text(), 1);
+        due.is("of(0, 1)", x.of(0, 1), 4);
+        due.is("count(5)", x.count(5), 0);
+
+        for (int n : new int[] {0, 5, -1, Integer.MIN_VALUE, Integer.MAX_VALUE}) {
+            due.refuses("feed(0, " + n + ")", Due.BEYOND, Scenes::busy, y -> y.feed(0, n));
+        }
+        Due.Scene nearlyFull = y -> Scenes.tape(y, "x".repeat(118));
+        due.refuses("feed(0, 3)", Due.FULL, nearlyFull, y -> y.feed(0, 3));
+        due.refuses("feed(0, 4)", Due.FULL, nearlyFull, y -> y.feed(0, 4));
+        due.refuses("feed(0, 5)", Due.BEYOND, nearlyFull, y -> y.feed(0, 5));
+        MothTongue full = Due.made(nearlyFull);
+        due.is("feed(0, 2)", full.feed(0, 2), 120);
+        due.is("feed(0, 1)", full.feed(0, 1), Due.FULL);
+        due.is("feed(0, 0)", full.feed(0, 0), Due.BEYOND);
+        due.is("count(5)", full.count(5), 120);
+    }
+
+    private static void wipe() {
+        MothTongue x = new MothTongue();
+        due.is("wipe()", x.wipe(), 0);
+        Scenes.tape(x, "moth ;");
+        due.is("wipe()", x.wipe(), 6);
+        due.is("count(5)", x.count(5), 0);
+        due.is("wipe()", x.wipe(), 0);
+        due.is("text() behind it", x.text(), -1);
+        due.is("moths", x.count(1), 0);
+    }
+
+    private static void moth(String text, int kind, int page, int taste, int fed) {
+        MothTongue x = new MothTongue();
+        due.is(text, Scenes.read(x, text), 1);
+        due.is("moths of " + text, x.count(1), 1);
+        int[] want = {kind, page, taste, fed};
+        for (int what = 0; what < 4; what++) {
+            due.is("of(0, " + what + ") of " + text, x.of(0, what), want[what]);
+        }
+        due.is("no finding", x.status(-1), 0);
+    }
+
+    private static void moths() {
+        moth("moth", 0, 0, 1, 0);
+        moth("larva", 1, 0, 1, 0);
+        moth("silver", 2, 0, 1, 0);
+        moth("scholar", 3, 0, 1, 0);
+        moth("bishop", 4, 0, 1, 0);
+        moth("old", 5, 0, 1, 0);
+        moth("grub", 6, 0, 1, 0);
+        moth("moth on 0 taste 1 fed 0", 0, 0, 1, 0);
+        moth("grub on 5 taste 9 fed 999", 6, 5, 9, 999);
+        moth("silver on 3", 2, 3, 1, 0);
+        moth("silver taste 3", 2, 0, 3, 0);
+        moth("silver fed 3", 2, 0, 1, 3);
+        moth("silver on 4 fed 3", 2, 4, 1, 3);
+        moth("silver on 4 taste 3", 2, 4, 3, 0);
+        moth("silver taste 4 fed 3", 2, 0, 4, 3);
+        moth("   old  on   2   ", 5, 2, 1, 0);
+        moth("old on2taste3fed4", 5, 2, 3, 4);
+        moth("old on 002 taste 0003 fed 0000000000000999", 5, 2, 3, 999);
+    }
+
+    private static void pages() {
+        MothTongue x = new MothTongue();
+        Scenes.page(x, 3, 9, 9, 9, 9, 9, 9, 9, 9);
+        due.is("page 3 1", Scenes.read(x, "page 3 1"), 1);
+        due.is("a hole is what isn't told", x.page(3, 3), 1);
+        due.is("page 3 0 0 7", Scenes.read(x, "page 3 0 0 7"), 1);
+        due.is("says", x.page(3, 0), 21);
+        due.is("page 5 1 2 3 4 5 6 7 8", Scenes.read(x, "page 5 1 2 3 4 5 6 7 8"), 1);
+        due.is("says", x.page(5, 0), 204);
+        due.is("page 9", Scenes.read(x, "page00009"), -5);
+        due.is("page 0 9", Scenes.read(x, "page000 09"), 1);
+        due.is("reads(0, 0)", x.reads(0, 0), 9);
+        due.is("empty 5", Scenes.read(x, "empty 5"), 1);
+        due.is("holes", x.page(5, 1), 8);
+        due.is("other pages stay", x.page(3, 0), 21);
+        due.is("empty0", Scenes.read(x, "empty0"), 1);
+        due.is("holes", x.page(0, 1), 8);
+        due.is("moths", x.count(1), 0);
+        // Item by item: what comes later counts.
+        due.is("four items", Scenes.read(x, "page 1 5;page 2 6 6;empty 1;page 2 7"), 4);
+        due.is("page(1, 0)", x.page(1, 0), 0);
+        due.is("page(2, 0)", x.page(2, 0), 7);
+        due.is("items of both sorts", Scenes.read(x, "moth ; page 1 5 ;larva on 1;"), -29);
+        due.is("items of both sorts", Scenes.read(x, "moth ; page 1 5 ;larva on 1"), 3);
+        due.is("moths", x.count(1), 2);
+        due.is("of(1, 1)", x.of(1, 1), 1);
+        due.is("page(1, 0)", x.page(1, 0), 5);
+    }
+
+    private static void fault(String text, int place) {
+        due.is("'" + text + "'", Scenes.read(new MothTongue(), text), -1 - place);
+    }
+
+    private static void tokens() {
+        fault("", 0);
+        fault("   ", 3);
+        fault(";", 0);
+        fault(" ;", 1);
+        fault("7", 0);
+        fault("-", 0);
+        fault("Moth", 0);
+        fault("mOth", 0);
+        fault("moths", 0);
+        fault("mot", 0);
+        fault("mothlarva", 0);
+        fault("mothon 1", 0);
+        fault("moth on1taste", 13);
+        fault("on", 0);
+        fault("taste 3", 0);
+        fault("moth.", 4);
+        fault("moth,larva", 4);
+        fault("moth\tlarva", 4);
+        fault("moth\n", 4);
+        fault("moth" + (char) 0, 4);
+        fault("moth" + (char) 233, 4);
+        fault("moth" + (char) 255 + "on 1", 4);
+        fault("moth;", 5);
+        fault("moth; ", 6);
+        fault("moth;;moth", 5);
+        fault("moth; ;moth", 6);
+        fault("moth moth", 5);
+        fault("moth 1", 5);
+        fault("moth1", 4);
+        fault("`", 0);
+        fault("{", 0);
+        fault("moth on /", 8);
+        fault("moth on :", 8);
+        fault("moth<", 4);
+        fault("moth:", 4);
+    }
+
+    private static void faultsOfMoths() {
+        fault("moth on", 7);
+        fault("moth on  ", 9);
+        fault("moth on 6", 8);
+        fault("moth on 10", 8);
+        fault("moth on 999", 8);
+        fault("moth on 1000", 8);
+        fault("moth on 4294967296", 8);
+        fault("moth on 99999999999999999999999", 8);
+        fault("moth on x", 8);
+        fault("moth on ;", 8);
+        fault("moth on on", 8);
+        fault("moth on 1 on 1", 10);
+        fault("moth on 1 2", 10);
+        fault("moth taste 0", 11);
+        fault("moth taste 10", 11);
+        fault("moth taste", 10);
+        fault("moth taste 1 taste 2", 13);
+        fault("moth taste 1 on 1", 13);
+        fault("moth fed", 8);
+        fault("moth fed 1000", 9);
+        fault("moth fed 9999999999", 9);
+        fault("moth fed 4294967297", 9);
+        fault("moth fed 1 taste 1", 11);
+        fault("moth fed 1 on 1", 11);
+        fault("moth fed 1 fed 1", 11);
+        fault("moth ons 1", 5);
+    }
+
+    private static void faultsOfPages() {
+        fault("page", 4);
+        fault("page 0", 6);
+        fault("page 0;", 6);
+        fault("page 6 1", 5);
+        fault("page x", 5);
+        fault("page 0 10", 7);
+        fault("page 0 1 10", 9);
+        fault("page 0 1 x", 9);
+        fault("page 0 on", 7);
+        fault("page 0 1 2 3 4 5 6 7 8 9", 23);
+        fault("page 0 1 2 3 4 5 6 7 8 99", 23);
+        fault("page 0 1 2 3 4 5 6 7 8 x", 23);
+        fault("page 1000 1", 5);
+        fault("empty", 5);
+        fault("empty 6", 6);
+        fault("empty x", 6);
+        fault("empty;", 5);
+        fault("empty 0 0", 8);
+        fault("empty 0 on 1", 8);
+    }
+
+    private static void ninthMoth() {
+        MothTongue x = new MothTongue();
+        due.is("a 9th", Scenes.read(x, "old;old;old;old;old;old;old;old; old"), -34);
+        due.is("moths", x.count(1), 0);
+        due.is("eight", Scenes.read(x, "old;old;old;old;old;old;old;old;page 1 1"), 9);
+        due.is("moths", x.count(1), 8);
+        due.is("a 9th by itself", Scenes.read(x, "page 1 2;grub on 7"), -10);
+        due.is("page(1, 0)", x.page(1, 0), 1);
+        due.is("pages all the same", Scenes.read(x, "page 1 2;empty 2"), 2);
+        due.is("page(1, 0)", x.page(1, 0), 2);
+
+        MothTongue six = new MothTongue();
+        for (int i = 0; i < 6; i++) {
+            six.moth(0, 0);
+        }
+        due.is("a 9th of those there and told", Scenes.read(six, "old;old;old"), -9);
+        due.is("an earlier fault counts", Scenes.read(six, "old;old;empty 9;old"), -15);
+        due.is("the 8th", Scenes.read(six, "old;old"), 2);
+    }
+
+    private static void faultChangesNothing() {
+        MothTongue x = Due.made(Scenes::busy);
+        x.wipe();
+        MothTongue twin = Due.made(Scenes::busy);
+        twin.wipe();
+        due.is("a late fault", Scenes.read(x, "empty 0;page 1 1;grub on 2 taste 3 fed 4;page 2 11"), -49);
+        due.is("no finding", x.status(-1), twin.status(-1));
+        due.is("the tape is empty", x.count(5), 0);
+        due.isTrue("nothing else changes", Observed.of(x).equals(Observed.of(twin)));
+    }
+
+    private static void longest() {
+        MothTongue x = new MothTongue();
+        String text = "empty 1;".repeat(14) + "empty  2";
+        due.is("120 bytes", Scenes.read(x, text), 15);
+        due.is("120 bytes of blanks", Scenes.read(x, " ".repeat(120)), -121);
+        due.is("120 digits", Scenes.read(x, "page 0 " + "0".repeat(112) + "9"), 1);
+        due.is("reads(0, 0)", x.reads(0, 0), 9);
+        due.is("120 letters", Scenes.read(x, "x".repeat(120)), -1);
+    }
+}
