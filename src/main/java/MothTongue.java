@@ -27,7 +27,7 @@ public final class MothTongue {
     /** The set of moths let out while all bite. */
     private static final int ALL_IN = 0;
 
-    private static final int MOTH = 0;
+    /** The kinds, but for a plain moth, 0, which does what no other kind is told to do. */
     private static final int LARVA = 1;
     private static final int SILVER = 2;
     private static final int SCHOLAR = 3;
@@ -71,7 +71,6 @@ public final class MothTongue {
     private final Drawer trial = new Drawer();
     private final Drawer eve = new Drawer();
     private final Tape tape = new Tape();
-    private final TextReader reader = new TextReader(tape);
     private final Sheet[] sheets = new Sheet[SHEETS];
     private final int[] findings = new int[FINDINGS];
     private boolean isKept = false;
@@ -314,15 +313,17 @@ public final class MothTongue {
         if (!isPage(page) || !within(n, 0, MOST_NIGHTS_STAYED)) {
             return finding(BEYOND);
         }
-        int all = (1 << live.moths) - 1;
-        for (int size = 0; size < live.moths; size++) {
-            for (int set = 0; set < all; set++) {
-                if (Integer.bitCount(set) == size && staysWithout(set, page, n)) {
+        // Moths on other pages do nothing to this one, and without all that are on it, it stays.
+        int on = live.mothsOn(page);
+        for (int size = 0; size < Integer.bitCount(on); size++) {
+            for (int set = 0; set < on; set++) {
+                boolean isCandidate = (set & ~on) == 0 && Integer.bitCount(set) == size;
+                if (isCandidate && staysWithout(set, page, n)) {
                     return set;
                 }
             }
         }
-        return all;
+        return on;
     }
 
     // ---- what has been
@@ -423,9 +424,9 @@ public final class MothTongue {
 
     public int text() {
         trial.become(live);
-        int items = reader.readInto(trial);
+        int items = tape.readInto(trial);
         tape.empty();
-        if (items >= 0) {
+        if (items > 0) {
             live.become(trial);
         }
         return items;
@@ -1086,9 +1087,23 @@ public final class MothTongue {
         }
     }
 
+    /** The bytes fed, read token by token; where reading stops, the token at hand is the fault. */
     private static final class Tape {
+        private static final int END = 0;
+        private static final int NAME = 1;
+        private static final int NUMBER = 2;
+        private static final int SIGN = 3;
+        private static final int STRANGE = 4;
+        private static final int FAULTY = -1;
+        /** No number is asked for that has so much; from here on a number isn't read further. */
+        private static final int TOO_MUCH = 1000;
+
         final byte[] bytes = new byte[MOST_BYTES];
         int size = 0;
+        private int token = END;
+        private int begin = 0;
+        private int end = 0;
+        private int value = 0;
 
         void append(byte b) {
             if (size < MOST_BYTES) {
@@ -1101,27 +1116,6 @@ public final class MothTongue {
             int had = size;
             size = 0;
             return had;
-        }
-    }
-
-    /** Reads the tape token by token; where reading stops, the token at hand is the fault. */
-    private static final class TextReader {
-        private static final int END = 0;
-        private static final int NAME = 1;
-        private static final int NUMBER = 2;
-        private static final int SIGN = 3;
-        private static final int STRANGE = 4;
-        private static final int FAULTY = -1;
-        private static final int TOO_MUCH = 1000;
-
-        private final Tape tape;
-        private int token = END;
-        private int begin = 0;
-        private int end = 0;
-        private int value = 0;
-
-        TextReader(Tape itsTape) {
-            tape = itsTape;
         }
 
         /** How many items were read into the drawer, or -1 less the fault. */
@@ -1225,7 +1219,7 @@ public final class MothTongue {
                 return false;
             }
             for (int i = 0; i < name.length(); i++) {
-                if (tape.bytes[begin + i] != name.charAt(i)) {
+                if (bytes[begin + i] != name.charAt(i)) {
                     return false;
                 }
             }
@@ -1254,11 +1248,11 @@ public final class MothTongue {
         /** Passes the token at hand and takes the next one to hand. */
         private void step() {
             begin = end;
-            while (begin < tape.size && tape.bytes[begin] == ' ') {
+            while (begin < size && bytes[begin] == ' ') {
                 begin++;
             }
             end = begin;
-            while (end < tape.size && within(tape.bytes[end], 'a', 'z')) {
+            while (end < size && bytes[end] >= 'a' && bytes[end] <= 'z') {
                 end++;
             }
             if (end > begin) {
@@ -1266,16 +1260,18 @@ public final class MothTongue {
                 return;
             }
             value = 0;
-            while (end < tape.size && within(tape.bytes[end], '0', '9')) {
-                value = Math.min(value * 10 + tape.bytes[end] - '0', TOO_MUCH);
+            while (end < size && bytes[end] >= '0' && bytes[end] <= '9') {
+                if (value < TOO_MUCH) {
+                    value = value * 10 + bytes[end] - '0';
+                }
                 end++;
             }
             if (end > begin) {
                 token = NUMBER;
-            } else if (begin == tape.size) {
+            } else if (begin == size) {
                 token = END;
             } else {
-                token = tape.bytes[begin] == ';' ? SIGN : STRANGE;
+                token = bytes[begin] == ';' ? SIGN : STRANGE;
                 end++;
             }
         }

@@ -32,6 +32,18 @@ final class AheadTest {
         Scenes.moth(x, 4, 0, 2, 0);
     }
 
+    /** Found by search: nothing slower was, so bare and settled pages at the 200th night go untested. */
+    private static void slow(MothTongue x) {
+        Scenes.page(x, 4, 2, 5, 9, 9, 9, 9, 9, 4);
+        Scenes.moth(x, 2, 4, 8, 4);
+        Scenes.moth(x, 6, 4, 9, 1);
+        Scenes.moth(x, 2, 4, 9, 2);
+        Scenes.moth(x, 2, 4, 4, 3);
+        Scenes.moth(x, 4, 4, 7, 6);
+        Scenes.moth(x, 2, 4, 3, 5);
+        Scenes.moth(x, 1, 4, 9, 7);
+    }
+
     private static void aheadSaysFed() {
         int[] firstWord = {3, 2, 1, 0, 0, 0, 0};
         int[] secondWord = {2, 2, 2, 2, 1, 0, 0};
@@ -72,6 +84,7 @@ final class AheadTest {
             Scenes.page(x, 3, 9, 9, 9, 9, 9, 9, 9, 9);
             x.moth(1, 3);
         }, x -> x.bare(3));
+        due.looks("bare of a slow page", 150, AheadTest::slow, x -> x.bare(4));
         for (int page : new int[] {-1, 6, Integer.MIN_VALUE, Integer.MAX_VALUE}) {
             due.refuses("bare(" + page + ")", Due.BEYOND, Scenes::busy, y -> y.bare(page));
         }
@@ -116,6 +129,7 @@ final class AheadTest {
             x.moth(2, 2);
             x.moth(2, 2);
         }, MothTongue::settles);
+        due.looks("settles() of a slow page", 150, AheadTest::slow, MothTongue::settles);
         due.refuses("settles() with a silver one", Due.NONE, AheadTest::twoPages, MothTongue::settles);
     }
 

@@ -125,6 +125,12 @@ final class ChoicesTest {
             Scenes.moth(x, 0, 1, 5, 0);
             Scenes.moth(x, 2, 0, 1, 0);
         }, x -> x.swapFor(1, 39));
+        due.looks("the lesser moth to page 1", 2, x -> {
+            Scenes.page(x, 1, 1);
+            Scenes.moth(x, 2, 0, 1, 0);
+            Scenes.moth(x, 0, 4, 5, 0);
+            Scenes.moth(x, 0, 1, 5, 0);
+        }, x -> x.swapFor(1, 1));
         due.looks("in 40 nights", 1, x -> {
             Scenes.page(x, 1, 1);
             Scenes.moth(x, 0, 1, 5, 0);

@@ -89,6 +89,10 @@ final class NightsTest {
         due.is("go(40)", x.go(40), Due.STATE);
         due.is("NIGHT stays", x.now(0), 99960);
         due.is("words stay", x.reads(0, 0), 9);
+        x.image();
+        due.is("go(39)", x.go(39), 48);
+        due.is("NIGHT", x.now(0), 99999);
+        due.is("undo()", x.undo(), 99960);
         due.is("go(36)", x.go(36), 48);
         due.is("lights(4)", x.lights(4), Due.STATE);
         due.is("z stays", x.count(6), 1);

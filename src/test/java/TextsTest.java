@@ -127,7 +127,11 @@ final class TextsTest {
         fault("Moth", 0);
         fault("mOth", 0);
         fault("moths", 0);
+        fault("mothz", 0);
         fault("mot", 0);
+        fault("both", 0);
+        fault("moto", 0);
+        fault("wage 1 1", 0);
         fault("mothlarva", 0);
         fault("mothon 1", 0);
         fault("moth on1taste", 13);
