@@ -18,6 +18,7 @@ final class MothsTest {
         bites();
         change();
         leaves();
+        fedAtMost();
         due.end();
     }
 
@@ -173,5 +174,34 @@ final class MothsTest {
         for (int[] w : wrong) {
             due.refuses("leaves" + Arrays.toString(w), Due.BEYOND, Scenes::busy, y -> y.leaves(w[0], w[1], w[2]));
         }
+    }
+
+    /** FED is 9999 at most, whatever is gained; by gaining just so much it becomes that, too. */
+    private static void fedAtMost() {
+        for (int kind = 0; kind < 7; kind++) {
+            for (int word = 1; word <= 9; word++) {
+                for (int fed = 9988; fed <= 9999; fed++) {
+                    MothTongue x = new MothTongue();
+                    Scenes.moth(x, kind, 2, word, fed);
+                    // An old moth bites where it has come to.
+                    int place = kind == OLD ? fed % 8 : 6;
+                    x.word(2, place, word);
+                    int gained = x.leaves(0, word, 1);
+                    int left = x.leaves(0, word, 0);
+                    String told = "kind " + kind + " with FED " + fed + " by a " + word;
+                    due.is(told + " ahead", x.fed(0, 1), Math.min(fed + gained, 9999));
+                    x.go(1);
+                    due.is(told, x.of(0, 3), Math.min(fed + gained, 9999));
+                    due.is("what is left by " + told, x.reads(2, place), left);
+                }
+            }
+        }
+        MothTongue x = new MothTongue();
+        Scenes.page(x, 0, 9, 9, 9, 9, 9, 9, 9, 9);
+        Scenes.moth(x, LARVA, 0, 1, 9950);
+        due.is("one below the most", x.fed(0, 48), 9998);
+        due.is("at the most", x.fed(0, 49), 9999);
+        due.is("stays at the most", x.fed(0, 50), 9999);
+        due.is("to the end", x.fed(0, 100), 9999);
     }
 }

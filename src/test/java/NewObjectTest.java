@@ -31,6 +31,8 @@ final class NewObjectTest {
         due.is("wipe()", x.wipe(), 0);
         due.is("text()", x.text(), -1);
 
+        asksOfNothing(due);
+
         // Two objects have nothing in common.
         MothTongue busy = Due.made(Scenes::busy);
         MothTongue fresh = new MothTongue();
@@ -41,5 +43,27 @@ final class NewObjectTest {
         due.is("image of another object", fresh.undo(), Due.NONE);
         due.is("moths of the busy one", busy.count(1), 3);
         due.end();
+    }
+
+    /** What the calls answer where there are holes alone, and no moths. */
+    private static void asksOfNothing(Due due) {
+        for (int page = 0; page < 6; page++) {
+            int p = page;
+            int other = (page + 1) % 6;
+            due.looks("bare", 0, Scenes::nothing, x -> x.bare(p));
+            due.looks("when 0", 0, Scenes::nothing, x -> x.when(p, 0));
+            due.refuses("when 1", Due.NONE, Scenes::nothing, x -> x.when(p, 1));
+            due.looks("alike", 0, Scenes::nothing, x -> x.alike(p, other));
+            due.looks("says", 0, Scenes::nothing, x -> x.says(p, 100));
+            due.looks("ahead", 0, Scenes::nothing, x -> x.ahead(p, 7, 100));
+            due.looks("out", 0, Scenes::nothing, x -> x.out(p, 20));
+            due.refuses("swapFor", Due.NONE, Scenes::nothing, x -> x.swapFor(p, 40));
+        }
+        due.looks("settles", 0, Scenes::nothing, MothTongue::settles);
+        due.looks("odds of none, above", 0, Scenes::nothing, x -> x.odds(23, 0));
+        due.looks("odds of none, below", 1, Scenes::nothing, x -> x.odds(23, 1));
+        due.looks("no draws, above", 1, Scenes::nothing, x -> x.odds(0, 0));
+        due.is("go(60)", new MothTongue().go(60), 48);
+        due.is("lights(20)", new MothTongue().lights(20), 48);
     }
 }
