@@ -56,6 +56,12 @@ public final class MothTongue {
     private static final int MOST_NIGHTS_LIT = 20;
     private static final int MOST_ODDS = 23;
 
+    /** What nights may bring, and is waited for. */
+    private static final int BARE = 0;
+    private static final int SAYING = 1;
+    private static final int STILL = 2;
+    private static final int ALIKE = 3;
+
     private static final int MOST_BYTES = 120;
     private static final int MOST_BYTES_FED = 4;
     private static final int MOST_FED_TOLD = 999;
@@ -69,7 +75,7 @@ public final class MothTongue {
     private final Drawer live = new Drawer();
     private final Drawer kept = new Drawer();
     private final Drawer trial = new Drawer();
-    private final Drawer eve = new Drawer();
+    private final Drawer morrow = new Drawer();
     private final Tape tape = new Tape();
     private final Sheet[] sheets = new Sheet[SHEETS];
     private final int[] findings = new int[FINDINGS];
@@ -221,54 +227,25 @@ public final class MothTongue {
         if (!isPage(page)) {
             return finding(BEYOND);
         }
-        trial.become(live);
-        for (int n = 0; n <= MOST_NIGHTS_AWAITED; n++) {
-            if (trial.isBare(page)) {
-                return n;
-            }
-            trial.passNights(1, ALL_IN);
-        }
-        return finding(NONE);
+        return fewestNights(BARE, page, 0);
     }
 
     public int when(int page, int v) {
         if (!isPage(page) || !within(v, 0, MOST_SAID)) {
             return finding(BEYOND);
         }
-        trial.become(live);
-        for (int n = 0; n <= MOST_NIGHTS_AWAITED; n++) {
-            if (trial.saidBy(page) == v) {
-                return n;
-            }
-            trial.passNights(1, ALL_IN);
-        }
-        return finding(NONE);
+        return fewestNights(SAYING, page, v);
     }
 
     public int settles() {
-        trial.become(live);
-        for (int n = 0; n <= MOST_NIGHTS_AWAITED; n++) {
-            eve.become(trial);
-            trial.passNights(1, ALL_IN);
-            if (trial.hasPagesOf(eve)) {
-                return n;
-            }
-        }
-        return finding(NONE);
+        return fewestNights(STILL, 0, 0);
     }
 
     public int alike(int a, int b) {
         if (!isPage(a) || !isPage(b) || a == b) {
             return finding(BEYOND);
         }
-        trial.become(live);
-        for (int n = 0; n <= MOST_NIGHTS_AWAITED; n++) {
-            if (trial.unlikePlaces(a, b) == 0) {
-                return n;
-            }
-            trial.passNights(1, ALL_IN);
-        }
-        return finding(NONE);
+        return fewestNights(ALIKE, a, b);
     }
 
     // ---- which moth, where
@@ -633,6 +610,32 @@ public final class MothTongue {
     private void lookAhead(int nights) {
         trial.become(live);
         trial.passNights(nights, ALL_IN);
+    }
+
+    private int fewestNights(int awaited, int a, int b) {
+        trial.become(live);
+        for (int n = 0; n <= MOST_NIGHTS_AWAITED; n++) {
+            if (hasCome(awaited, a, b)) {
+                return n;
+            }
+            trial.passNights(1, ALL_IN);
+        }
+        return finding(NONE);
+    }
+
+    private boolean hasCome(int awaited, int a, int b) {
+        switch (awaited) {
+            case BARE:
+                return trial.isBare(a);
+            case SAYING:
+                return trial.saidBy(a) == b;
+            case STILL:
+                morrow.become(trial);
+                morrow.passNights(1, ALL_IN);
+                return morrow.hasPagesOf(trial);
+            default:
+                return trial.unlikePlaces(a, b) == 0;
+        }
     }
 
     private int bestTrait(int moth, int what, int page, int n) {

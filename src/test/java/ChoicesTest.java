@@ -28,6 +28,19 @@ final class ChoicesTest {
         due.looks("in no nights the least page", 0, scene, x -> x.put(1, 4, 0));
         due.looks("in 39 nights", 4, scene, x -> x.put(1, 4, 39));
         due.looks("in 40 nights", 0, scene, x -> x.put(1, 4, 40));
+        due.looks("the last page, as on each other one it does harm", 5, x -> {
+            for (int page = 0; page < 5; page++) {
+                Scenes.page(x, page, 4);
+            }
+            Scenes.page(x, 5, 1);
+            Scenes.moth(x, 2, 0, 1, 0);
+        }, x -> x.put(0, 5, 1));
+        due.looks("a bare page says nothing wherever it is: the first", 0, scene, x -> x.put(0, 5, 40));
+        due.looks("where it is makes no odds to a page of another's", 0, x -> {
+            Scenes.page(x, 3, 9, 9);
+            Scenes.moth(x, 1, 3, 1, 0);
+            Scenes.moth(x, 0, 5, 1, 0);
+        }, x -> x.put(1, 3, 1));
     }
 
     private static void tasteFor() {
@@ -56,6 +69,13 @@ final class ChoicesTest {
             Scenes.moth(x, 0, 0, 1, 0);
         }, x -> x.tasteFor(0, 0, 40));
         due.looks("another page", 1, scene, x -> x.tasteFor(0, 2, 7));
+        Due.Scene turning = x -> {
+            Scenes.page(x, 0, 7);
+            Scenes.moth(x, 2, 0, 5, 0);
+        };
+        due.looks("7 is 3 behind 39 turns: an even taste", 2, turning, x -> x.tasteFor(0, 0, 39));
+        due.looks("7 is 7 behind 40 turns: the least taste", 1, turning, x -> x.tasteFor(0, 0, 40));
+        due.looks("in no nights the least taste", 1, turning, x -> x.tasteFor(0, 0, 0));
     }
 
     private static void kindFor() {
@@ -81,10 +101,13 @@ final class ChoicesTest {
             Scenes.page(x, 0, 5);
             Scenes.moth(x, 6, 0, 5, 0);
         }, x -> x.kindFor(0, 0, 0));
-        due.looks("in 40 nights", 2, x -> {
+        Due.Scene seven = x -> {
             Scenes.page(x, 0, 7);
             Scenes.moth(x, 6, 0, 7, 0);
-        }, x -> x.kindFor(0, 0, 40));
+        };
+        due.looks("in 39 nights a silver one leaves 3, a scholar 4", 3, seven, x -> x.kindFor(0, 0, 39));
+        due.looks("in 40 nights a silver one leaves 7", 2, seven, x -> x.kindFor(0, 0, 40));
+        due.looks("another page: the least kind", 0, seven, x -> x.kindFor(0, 5, 40));
     }
 
     private static void wrongMothPageNights() {
@@ -131,11 +154,21 @@ final class ChoicesTest {
             Scenes.moth(x, 0, 4, 5, 0);
             Scenes.moth(x, 0, 1, 5, 0);
         }, x -> x.swapFor(1, 1));
-        due.looks("in 40 nights", 1, x -> {
+        Due.Scene turning = x -> {
             Scenes.page(x, 1, 1);
+            Scenes.moth(x, 0, 2, 5, 0);
             Scenes.moth(x, 0, 1, 5, 0);
             Scenes.moth(x, 2, 0, 1, 0);
-        }, x -> x.swapFor(1, 40));
+        };
+        due.looks("1 is 9 behind 39 turns", 8 * 1 + 2, turning, x -> x.swapFor(1, 39));
+        due.looks("1 is 1 behind 40 turns: the least pair", 1, turning, x -> x.swapFor(1, 40));
+        due.looks("two on one page change nothing, and that is best", 1, x -> {
+            Scenes.page(x, 1, 9);
+            Scenes.moth(x, 0, 0, 5, 0);
+            Scenes.moth(x, 0, 0, 5, 0);
+            Scenes.moth(x, 0, 1, 5, 0);
+            Scenes.moth(x, 1, 0, 5, 0);
+        }, x -> x.swapFor(1, 1));
         due.refuses("swapFor with no moths", Due.NONE, Scenes::nothing, x -> x.swapFor(0, 0));
         due.refuses("swapFor with one moth", Due.NONE, x -> x.moth(0, 0), x -> x.swapFor(0, 0));
         int[][] wrong = {{-1, 0}, {6, 0}, {0, -1}, {0, 41}, {Integer.MIN_VALUE, 0}, {0, Integer.MAX_VALUE}};
@@ -180,6 +213,29 @@ final class ChoicesTest {
             }
         }, x -> x.out(0, 1));
         due.looks("no moths", 0, x -> Scenes.page(x, 0, 9), x -> x.out(0, 20));
+        due.looks("a bare page", 0, x -> x.moth(1, 0), x -> x.out(0, 20));
+        due.looks("the last moth alone", 128, x -> {
+            Scenes.page(x, 5, 9);
+            for (int i = 0; i < 7; i++) {
+                Scenes.moth(x, 0, 5, 8, 0);
+            }
+            Scenes.moth(x, 6, 5, 8, 0);
+        }, x -> x.out(5, 20));
+        // Two turn 3 to 7 and back; a moth eats it if it is 7 when its turn comes.
+        due.looks("one may stay that would do harm with others", 2, x -> {
+            Scenes.page(x, 0, 3);
+            Scenes.moth(x, 2, 0, 1, 0);
+            Scenes.moth(x, 0, 0, 7, 0);
+            Scenes.moth(x, 2, 0, 1, 0);
+        }, x -> x.out(0, 1));
+        due.looks("words as now at the end, though not between", 0, x -> {
+            Scenes.page(x, 0, 7);
+            Scenes.moth(x, 2, 0, 1, 0);
+        }, x -> x.out(0, 20));
+        due.looks("words not as now at the end", 1, x -> {
+            Scenes.page(x, 0, 7);
+            Scenes.moth(x, 2, 0, 1, 0);
+        }, x -> x.out(0, 19));
         int[][] wrong = {{-1, 0}, {6, 0}, {0, -1}, {0, 21}, {Integer.MIN_VALUE, 0}, {0, Integer.MAX_VALUE}};
         for (int[] w : wrong) {
             due.refuses("out" + Arrays.toString(w), Due.BEYOND, Scenes::busy, y -> y.out(w[0], w[1]));

@@ -5,6 +5,7 @@ final class ImagesTest {
     public static void main(String[] args) {
         imageAndUndo();
         theLatest();
+        emptyAndFull();
         whatIsNotKept();
         tear();
         count();
@@ -121,6 +122,21 @@ final class ImagesTest {
             int w = what;
             due.looks("count(" + what + ")", want[what], scene, x -> x.count(w));
         }
+        int[] most = {3, 8, 0, 8 * 9999, 6 * 324, 120, Integer.MAX_VALUE, 10};
+        for (int what = 0; what < most.length; what++) {
+            int w = what;
+            due.looks("count(" + what + ") of all there can be", most[what], x -> {
+                full(x);
+                for (int page = 0; page < 6; page++) {
+                    Scenes.page(x, page, 9, 9, 9, 9, 9, 9, 9, 9);
+                }
+                x.image();
+                Scenes.tape(x, "?".repeat(120));
+                x.seed(Integer.MAX_VALUE);
+            }, x -> x.count(w));
+            int least = what == 2 ? 48 : what == 6 ? 1 : 0;
+            due.looks("count(" + what + ") of nothing", least, Scenes::nothing, x -> x.count(w));
+        }
         for (int what : new int[] {-1, 8, Integer.MIN_VALUE, Integer.MAX_VALUE}) {
             due.refuses("count(" + what + ")", Due.BEYOND, Scenes::busy, x -> x.count(what));
         }
@@ -162,5 +178,65 @@ final class ImagesTest {
             due.refuses("status(" + which + ")", Due.BEYOND, Scenes::busy, y -> y.status(which));
         }
         due.looks("status(5)", 0, Scenes::busy, y -> y.status(5));
+    }
+
+    private static void emptyAndFull() {
+        // Of nothing, over a full drawer.
+        MothTongue x = new MothTongue();
+        x.image();
+        full(x);
+        due.is("undo() to nothing", x.undo(), 0);
+        MothTongue fresh = new MothTongue();
+        fresh.image();
+        for (int s = 0; s < 4; s++) {
+            due.is("moths are gone", x.of(s, 0), Due.BEYOND);
+        }
+        due.isTrue("all is as at first", Observed.of(x).equals(Observed.of(fresh)));
+
+        // Of a full drawer, over nothing.
+        MothTongue kept = new MothTongue();
+        full(kept);
+        kept.image();
+        Scenes.page(kept, 0);
+        for (int page = 1; page < 6; page++) {
+            kept.copied(0, page);
+        }
+        for (int spot = 0; spot < 10; spot++) {
+            kept.hold(spot, -1);
+        }
+        kept.seed(1);
+        due.is("undo() to a full drawer", kept.undo(), 3);
+        MothTongue twin = new MothTongue();
+        full(twin);
+        twin.image();
+        due.is("a 9th moth", kept.moth(0, 0), Due.FULL);
+        due.isTrue("all is as in the full drawer", Observed.of(kept).equals(Observed.of(twin)));
+
+        // A moth that comes where one was undone has nothing of that one.
+        MothTongue again = new MothTongue();
+        again.image();
+        Scenes.moth(again, 4, 3, 9, 9999);
+        again.hold(2, 0);
+        again.undo();
+        due.is("the number comes again", again.moth(1, 2), 0);
+        int[] want = {1, 2, 1, 0};
+        for (int what = 0; what < 4; what++) {
+            due.is("of(0, " + what + ")", again.of(0, what), want[what]);
+        }
+        due.is("the spot holds nothing", again.as(2, 0), Due.MISSING);
+    }
+
+    private static void full(MothTongue x) {
+        for (int page = 0; page < 6; page++) {
+            Scenes.page(x, page, 9, 9, 9, 9, 9, 9, 9, 9);
+        }
+        for (int i = 0; i < 8; i++) {
+            Scenes.moth(x, i % 7, i % 6, 9, 9999);
+        }
+        for (int spot = 0; spot < 10; spot++) {
+            x.hold(spot, spot % 8);
+        }
+        x.seed(Integer.MIN_VALUE);
+        x.go(3);
     }
 }

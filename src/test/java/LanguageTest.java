@@ -26,6 +26,8 @@ final class LanguageTest {
         lacks(code, "\"\"\\s*\\+|\\+\\s*\"\"");
         library(code);
         madeOnce(code);
+        staticFields(code);
+        shortMethods(code);
         due.end();
     }
 
@@ -48,5 +50,36 @@ final class LanguageTest {
                         line.matches("\\s*(private )?final \\S+ \\w+ = new .*") || line.strip().equals("sheets[s] = new Sheet();"));
             }
         }
+    }
+
+    /** Rule 5: constants, and rows written out in their initialiser. */
+    private static void staticFields(String code) {
+        for (String line : code.split("\n")) {
+            if (line.matches("\\s*(private )?static [^(]*(=.*)?;")) {
+                due.isTrue("a constant: " + line.strip(),
+                        line.matches("\\s*private static final (int|long|boolean|char|String|(int|long|char|byte)\\[\\]) [A-Z_]+ = .*;"));
+            }
+        }
+    }
+
+    /** Rule 11: some sixty lines at most from a method's head to its end, and seven parameters. */
+    private static void shortMethods(String code) {
+        String[] lines = code.split("\n");
+        int heads = 0;
+        for (int i = 0; i < lines.length; i++) {
+            if (!lines[i].matches("( {4}| {8})(public|private|static|final|int|long|void|boolean|String|Drawer)\\b[^=;]*\\) \\{")) {
+                continue;
+            }
+            heads++;
+            String end = lines[i].replaceAll("\\S.*", "") + "}";
+            int last = i;
+            while (!lines[last].equals(end)) {
+                last++;
+            }
+            due.isTrue("short: " + lines[i].strip(), last - i < 60);
+            due.isTrue("few parameters: " + lines[i].strip(), lines[i].split(",").length <= 7);
+        }
+        due.isTrue("methods were found: " + heads, heads > 42);
+        due.isTrue("at most twelve classes", code.split("\\bclass\\b").length - 1 <= 12);
     }
 }

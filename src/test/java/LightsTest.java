@@ -6,6 +6,8 @@ final class LightsTest {
 
     public static void main(String[] args) {
         knownDraws();
+        wrappingDraws();
+        noSuchMoth();
         lights();
         odds();
         seed();
@@ -108,5 +110,50 @@ final class LightsTest {
         due.is("what looks like a finding is none", x.seed(0), Due.BEYOND);
         due.is("status(-1)", x.status(-1), 0);
         due.is("seed(0)", x.seed(0), 0);
+    }
+
+    /** z is an int that wraps around, and what is drawn of it is never below 0. */
+    private static void wrappingDraws() {
+        for (int seed : new int[] {0, 1, -1, 2, 77, 305419896, -305419896, Integer.MIN_VALUE, Integer.MAX_VALUE}) {
+            MothTongue x = new MothTongue();
+            for (int i = 0; i < 8; i++) {
+                x.moth(0, 0);
+            }
+            x.seed(seed);
+            x.lights(1);
+            long first = next(seed & 0xffffffffL);
+            long second = next(first);
+            int moth = (int) ((first >> 8) % 8);
+            int page = (int) ((second >> 8) % 6);
+            String told = "with z " + seed;
+            due.is("z behind two draws " + told, x.count(6), (int) second);
+            for (int i = 0; i < 8; i++) {
+                due.is("page of moth " + i + " " + told, x.of(i, 1), i == moth ? page : 0);
+            }
+        }
+    }
+
+    /** z as a number of 32 bits without a sign. */
+    private static long next(long z) {
+        return java.math.BigInteger.valueOf(z).multiply(java.math.BigInteger.valueOf(1103515245L))
+                .add(java.math.BigInteger.valueOf(12345)).mod(java.math.BigInteger.ONE.shiftLeft(32)).longValueExact();
+    }
+
+    /** z 1 draws moth 6: seven moths have it, six haven't, and the draws and the night count all the same. */
+    private static void noSuchMoth() {
+        for (int moths = 5; moths <= 8; moths++) {
+            MothTongue x = new MothTongue();
+            for (int i = 0; i < moths; i++) {
+                x.moth(1, 5);
+            }
+            x.word(2, 0, 4);
+            x.word(5, 7, 9);
+            due.is("lights(1) with " + moths + " moths", x.lights(1), 46);
+            due.is("moths that left with " + moths, x.page(2, 2), moths > 6 ? 1 << 6 : 0);
+            due.is("word of page 2 with " + moths, x.reads(2, 0), moths > 6 ? 3 : 4);
+            due.is("word of page 5 with " + moths, x.reads(5, 7), moths > 6 ? 9 - moths + 1 : 9 - moths);
+            due.is("z with " + moths, x.count(6), (int) 2524885223L);
+            due.is("NIGHT with " + moths, x.now(0), 1);
+        }
     }
 }

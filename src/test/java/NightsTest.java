@@ -4,6 +4,7 @@ final class NightsTest {
 
     public static void main(String[] args) {
         go();
+        sixtyAtOnce();
         moths();
         lastNight();
         now();
@@ -138,6 +139,29 @@ final class NightsTest {
         }
         for (int what : new int[] {-1, 6, Integer.MIN_VALUE, Integer.MAX_VALUE}) {
             due.refuses("now(" + what + ")", Due.BEYOND, Scenes::busy, y -> y.now(what));
+        }
+    }
+
+    /** Sixty nights at once are sixty nights one by one. */
+    private static void sixtyAtOnce() {
+        Due.Scene scene = x -> {
+            Scenes.page(x, 0, 9, 9, 9, 9, 9, 9, 9, 9);
+            Scenes.page(x, 5, 3, 8, 5);
+            Scenes.moth(x, 1, 0, 1, 0);
+            Scenes.moth(x, 3, 5, 1, 0);
+            Scenes.moth(x, 4, 5, 2, 0);
+        };
+        for (int nights : new int[] {1, 2, 59, 60}) {
+            MothTongue atOnce = Due.made(scene);
+            MothTongue single = Due.made(scene);
+            int holes = 0;
+            for (int n = 0; n < nights; n++) {
+                holes = single.go(1);
+            }
+            due.is("go(" + nights + ")", atOnce.go(nights), holes);
+            due.is("the larva's FED behind " + nights, atOnce.of(0, 3), nights);
+            due.is("NIGHT behind " + nights, atOnce.now(0), nights);
+            due.isTrue("all is as one by one behind " + nights, Observed.of(atOnce).equals(Observed.of(single)));
         }
     }
 }

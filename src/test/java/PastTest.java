@@ -42,6 +42,17 @@ final class PastTest {
         due.looks("a page without moths", 1 << 3, larva(8, 3), x -> x.fits(3, 1, 0, 5));
         due.looks("an empty sheet", 1023, larva(8), x -> x.fits(3, 2, 0, 5));
         due.looks("any", 1023, larva(8, -1), x -> x.fits(3, 2, 0, 5));
+        int[] forty = new int[40];
+        Arrays.fill(forty, 77);
+        System.arraycopy(new int[] {6, 6, 0, 0, 0, 0, 0, 5}, 0, forty, 0, 8);
+        due.looks("of forty the first eight", 1 << 7, larva(8, forty), x -> x.fits(3, 2, 0, 1));
+        forty[7] = 77;
+        due.looks("the eighth of forty isn't so", 0, larva(8, forty), x -> x.fits(3, 2, 0, 1));
+        due.looks("0 alone", 1, larva(8, 0), x -> x.fits(3, 2, 0, 0));
+        due.looks("9 alone", 1 << 9, larva(8, 9), x -> x.fits(3, 2, 0, 0));
+        due.looks("10 is no word", 0, larva(8, 10), x -> x.fits(3, 2, 0, 0));
+        // No larva takes the last page off.
+        due.looks("the last page and place", 1 << 6, larva(8, 0, 0, 0, 0, 0, 0, 0, 6), x -> x.fits(3, 5, 7, 20));
     }
 
     private static void fitsByBits() {
@@ -88,6 +99,13 @@ final class PastTest {
         due.looks("any", 127, lone(8, -1, -1, -1), x -> x.kinds(0, 0));
         due.looks("nothing asked", 127, lone(16), x -> x.kinds(0, 0));
         due.looks("FED isn't so now", 0, lone(8, 1), x -> x.kinds(0, 0));
+        due.looks("FED now alone", 127, lone(8, 0), x -> x.kinds(0, 0));
+        due.looks("255 of 8 bits is -1: any", 127, lone(8, 255), x -> x.kinds(0, 0));
+        due.looks("65535 of 16 bits is -1: any", 127, lone(16, 65535), x -> x.kinds(0, 0));
+        due.looks("255 of 16 bits", 0, lone(16, 255), x -> x.kinds(0, 0));
+        due.looks("65535 of 32 bits", 0, lone(32, 65535), x -> x.kinds(0, 0));
+        due.looks("256 of 8 bits is 0", 127, lone(8, 256), x -> x.kinds(0, 0));
+        due.looks("-2 is never so", 0, lone(32, -2), x -> x.kinds(0, 0));
         due.looks("FED at the most", 127, x -> {
             Scenes.moth(x, 0, 0, 1, 9999);
             Scenes.sheet(x, 0, 16, 9999, 9999);

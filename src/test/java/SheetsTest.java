@@ -9,6 +9,7 @@ final class SheetsTest {
         sheet();
         write();
         copy();
+        copyOfForty();
         copyRefuses();
         load();
         judge();
@@ -65,6 +66,24 @@ final class SheetsTest {
         due.is("page(0, 0)", x.page(0, 0), 5 + 21);
 
         // What a page says tells what has been written.
+        written(8, 0, 0);
+        written(8, 256, 0);
+        written(8, -256, 0);
+        written(8, -129, 127);
+        notWritten(8, 128, 128);
+        notWritten(8, -128, 128);
+        notWritten(8, 255, 255);
+        notWritten(8, -1, 255);
+        written(16, 128, 128);
+        written(16, 255, 255);
+        written(16, 256, 256);
+        notWritten(16, 256, 0);
+        written(16, 65536, 0);
+        written(16, -65536 + 300, 300);
+        written(16, Integer.MIN_VALUE, 0);
+        notWritten(32, 65536, 0);
+        notWritten(32, Integer.MIN_VALUE, 0);
+        written(8, Integer.MIN_VALUE, 0);
         written(8, 127, 127);
         written(8, 256 + 100, 100);
         written(16, 324, 324);
@@ -179,6 +198,21 @@ final class SheetsTest {
         due.is("reads(0, 7)", x.reads(0, 7), 2);
         due.is("a ninth has no place", loaded(x, 16, 1, 1, 1, 1, 1, 1, 1, 2, 3), 8);
         due.is("none", loaded(x, 8), 0);
+        due.is("0 and 9 are words", loaded(x, 32, 9, 0, 9, 0, 9, 0, 9, 0), 8);
+        due.is("reads(0, 6)", x.reads(0, 6), 9);
+        due.is("reads(0, 7)", x.reads(0, 7), 0);
+        due.is("10 at once", loaded(x, 32, 10, 1), 0);
+        due.is("reads(0, 0)", x.reads(0, 0), 5);
+        due.is("the eighth is no word", loaded(x, 32, 1, 1, 1, 1, 1, 1, 1, 10), 7);
+        due.is("reads(0, 7)", x.reads(0, 7), 5);
+        due.is("-1 at the eighth", loaded(x, 16, 1, 1, 1, 1, 1, 1, 1, 65535), 7);
+        due.is("the ninth is no word, but isn't asked", loaded(x, 32, 1, 1, 1, 1, 1, 1, 1, 1, 10), 8);
+        due.is("265 of 8 bits is 9", loaded(x, 8, 265), 1);
+        due.is("reads(0, 0)", x.reads(0, 0), 9);
+        due.is("265 of 16 bits is no word", loaded(x, 16, 265), 0);
+        due.is("forty zeros", loaded(x, 8, new int[40]), 8);
+        due.is("page(0, 1)", x.page(0, 1), 8);
+        due.is("page(1, 0)", x.page(1, 0), 180);
         for (int s : STRANGE) {
             due.refuses("load(" + s + ")", Due.BEYOND, Scenes::busy, y -> y.load(s));
         }
@@ -206,5 +240,35 @@ final class SheetsTest {
             due.refuses("judge(" + s + ")", Due.BEYOND, Scenes::busy, y -> y.judge(s));
         }
         due.refuses("judge(3)", Due.MISSING, Scenes::busy, y -> y.judge(3));
+    }
+
+    /** A full sheet onto itself by one number, both ways: as they all were. */
+    private static void copyOfForty() {
+        for (int bits : new int[] {8, 16, 32}) {
+            int[] numbers = new int[40];
+            for (int i = 0; i < 40; i++) {
+                numbers[i] = i % 10;
+            }
+            MothTongue x = new MothTongue();
+            Scenes.sheet(x, 0, bits, numbers);
+            due.is("on by one", x.copy(0, 0, 0, 1, 39), 39);
+            isForty("on by one", x, bits, i -> Math.max(0, i - 1) % 10);
+            due.is("back by one", x.copy(0, 1, 0, 0, 39), 39);
+            isForty("back by one", x, bits, i -> Math.min(i, 38) % 10);
+            Scenes.sheet(x, 1, bits, new int[40]);
+            due.is("all to another one", x.copy(0, 0, 1, 0, 40), 40);
+            due.is("all back", x.copy(1, 0, 0, 0, 40), 40);
+            isForty("all back", x, bits, i -> Math.min(i, 38) % 10);
+        }
+    }
+
+    /** Number by number, by way of a sheet of one. */
+    private static void isForty(String told, MothTongue x, int bits, java.util.function.IntUnaryOperator want) {
+        for (int i = 0; i < 40; i++) {
+            x.sheet(3, bits, 1);
+            due.is("copy of number " + i, x.copy(0, i, 3, 0, 1), 1);
+            x.load(3);
+            due.is(told + " of " + bits + " bits, number " + i, x.reads(0, 0), want.applyAsInt(i));
+        }
     }
 }

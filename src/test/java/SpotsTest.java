@@ -6,6 +6,7 @@ final class SpotsTest {
 
     public static void main(String[] args) {
         hold();
+        everySpot();
         as();
         due.end();
     }
@@ -66,6 +67,25 @@ final class SpotsTest {
         int[][] wrong = {{-1, 0}, {10, 0}, {0, -1}, {0, 7}, {3, -1}, {3, 7}, {Integer.MAX_VALUE, 0}, {3, Integer.MIN_VALUE}};
         for (int[] w : wrong) {
             due.refuses("as" + Arrays.toString(w), Due.BEYOND, Scenes::busy, y -> y.as(w[0], w[1]));
+        }
+    }
+
+    private static void everySpot() {
+        MothTongue x = new MothTongue();
+        for (int i = 0; i < 8; i++) {
+            x.moth(0, 0);
+        }
+        for (int spot = 0; spot < 10; spot++) {
+            due.is("hold(" + spot + ", ..)", x.hold(spot, 7 - spot % 8), 1);
+            due.is("held", x.count(7), spot + 1);
+        }
+        for (int spot = 0; spot < 10; spot++) {
+            due.is("as(" + spot + ", 0)", x.as(spot, 0), 7 - spot % 8);
+        }
+        for (int spot = 0; spot < 10; spot++) {
+            due.is("hold(" + spot + ", -1)", x.hold(spot, -1), 1);
+            due.is("held", x.count(7), 9 - spot);
+            due.is("as(" + spot + ", 0)", x.as(spot, 0), Due.MISSING);
         }
     }
 }

@@ -4,6 +4,8 @@ final class TextsTest {
 
     public static void main(String[] args) {
         feed();
+        bytesOfANumber();
+        fullTape();
         wipe();
         moths();
         pages();
@@ -12,6 +14,9 @@ final class TextsTest {
         faultsOfPages();
         ninthMoth();
         faultChangesNothing();
+        moreAndFewerNumbers();
+        numbersAtTheirEdges();
+        everyByte();
         longest();
         due.end();
     }
@@ -228,6 +233,13 @@ final class TextsTest {
         due.is("a 9th of those there and told", Scenes.read(six, "old;old;old"), -9);
         due.is("an earlier fault counts", Scenes.read(six, "old;old;empty 9;old"), -15);
         due.is("the 8th", Scenes.read(six, "old;old"), 2);
+        // Each of the words for a moth is one of a 9th.
+        for (String name : new String[] {"moth", "larva", "silver", "scholar", "bishop", "old", "grub"}) {
+            due.is("a 9th: " + name, Scenes.read(six, "empty 1; " + name + " on 9"), -10);
+        }
+        due.is("another word is none", Scenes.read(six, "empty 1; oldest"), -10);
+        due.is("moths", six.count(1), 8);
+        due.is("a FAULT is no finding", six.status(-1), 0);
     }
 
     private static void faultChangesNothing() {
@@ -249,5 +261,140 @@ final class TextsTest {
         due.is("120 digits", Scenes.read(x, "page 0 " + "0".repeat(112) + "9"), 1);
         due.is("reads(0, 0)", x.reads(0, 0), 9);
         due.is("120 letters", Scenes.read(x, "x".repeat(120)), -1);
+        due.is("ends too early at 120", Scenes.read(x, "empty 1;".repeat(15)), -121);
+        due.is("the last byte begins no token", Scenes.read(x, "empty 1;".repeat(14) + "empty 1?"), -120);
+        due.is("the last byte is a number too large", Scenes.read(x, "empty 1;".repeat(14) + " empty 6"), -120);
+        due.is("the last byte is the number", Scenes.read(x, "empty 1;".repeat(14) + " empty 5"), 15);
+        due.is("a full tape of short items", Scenes.read(x, "empty0;".repeat(16) + "empty 00"), 17);
+        due.is("nothing of all that is a finding", x.status(-1), 0);
+    }
+
+    /** The n lowest bytes, the highest of them first, whatever stands above them. */
+    private static void bytesOfANumber() {
+        int old = 'o' << 24 | 'l' << 16 | 'd' << 8 | ';';
+        for (int n = 1; n <= 4; n++) {
+            MothTongue x = new MothTongue();
+            due.is("feed(.., " + n + ")", x.feed(old, n), n);
+            // "old;" ends too early at 4; "ld;" and "d;" begin with a word that isn't known; ";" is none.
+            due.is("text() of the " + n + " lowest", x.text(), n == 4 ? -5 : -1);
+        }
+        MothTongue x = new MothTongue();
+        due.is("3 of 4", x.feed(0xff000000 | 'o' << 16 | 'l' << 8 | 'd', 3), 3);
+        due.is("text()", x.text(), 1);
+        x.feed(-1, 4);
+        due.is("four bytes 255", x.count(5), 4);
+        due.is("they begin no token", x.text(), -1);
+        x.feed('o' << 16 | 'l' << 8 | 'd', 4);
+        due.is("a byte 0 counts, and begins no token", x.text(), -1);
+        x.feed('o' << 16 | 'l' << 8 | 'd', 3);
+        x.feed(Integer.MIN_VALUE, 4);
+        due.is("a byte 128 begins no token", x.text(), -4);
+    }
+
+    private static void fullTape() {
+        MothTongue x = new MothTongue();
+        for (int i = 1; i <= 30; i++) {
+            due.is("feed 4", x.feed('o' << 24 | 'l' << 16 | 'd' << 8 | ' ', 4), 4 * i);
+        }
+        for (int n = 1; n <= 4; n++) {
+            due.is("feed(0, " + n + ") to a full tape", x.feed(0, n), Due.FULL);
+        }
+        due.is("count(5)", x.count(5), 120);
+        due.is("wipe()", x.wipe(), 120);
+        due.is("count(5)", x.count(5), 0);
+        due.is("feed(0, 4) again", x.feed(0, 4), 4);
+        due.is("status(1)", x.status(1), 4);
+        // What was refused is not on the tape, and of what was wiped nothing comes back.
+        Due.Scene nearly = y -> {
+            Scenes.tape(y, "page 1 7" + " ".repeat(110));
+            y.feed(' ' << 16 | '8' << 8 | '9', 3);
+        };
+        MothTongue refused = Due.made(nearly);
+        due.is("118 bytes", refused.count(5), 118);
+        due.is("feed 2 more", refused.feed(' ' << 8 | '6', 2), 120);
+        due.is("text()", refused.text(), 1);
+        due.is("reads(1, 0)", refused.reads(1, 0), 7);
+        due.is("reads(1, 1)", refused.reads(1, 1), 6);
+        due.is("reads(1, 2)", refused.reads(1, 2), 0);
+        refused.feed('o' << 16 | 'l' << 8 | 'd', 3);
+        due.is("a short text behind a long one", refused.text(), 1);
+    }
+
+    /** A page is told 1 to 8 words. */
+    private static void moreAndFewerNumbers() {
+        StringBuilder text = new StringBuilder("page 4");
+        fault(text.toString(), 6);
+        fault(text + ";old", 6);
+        fault(text + " ;old", 7);
+        for (int words = 1; words <= 8; words++) {
+            text.append(' ').append(words);
+            for (String behind : new String[] {"", " ", ";empty 5", " ; empty 5"}) {
+                MothTongue x = new MothTongue();
+                Scenes.page(x, 4, 9, 9, 9, 9, 9, 9, 9, 9);
+                due.is(text + behind, Scenes.read(x, text + behind), behind.isBlank() ? 1 : 2);
+                for (int place = 0; place < 8; place++) {
+                    due.is("place " + place + " of " + text, x.reads(4, place), place < words ? place + 1 : 0);
+                }
+            }
+        }
+        fault(text + " 9", text.length() + 1);
+        fault(text + " 0", text.length() + 1);
+        fault(text + " 1000", text.length() + 1);
+        fault(text + " old", text.length() + 1);
+    }
+
+    /** The last number that is as told, and the first that isn't, on both sides. */
+    private static void numbersAtTheirEdges() {
+        taken("old on 0", 1);
+        taken("old on 5", 1);
+        fault("old on 6", 7);
+        taken("old taste 1", 1);
+        taken("old taste 9", 1);
+        fault("old taste 0", 10);
+        fault("old taste 10", 10);
+        taken("old fed 0", 1);
+        taken("old fed 999", 1);
+        fault("old fed 1000", 8);
+        taken("page 0 0", 1);
+        taken("page 5 9", 1);
+        fault("page 6 0", 5);
+        fault("page 5 10", 7);
+        fault("page 5 0 0 0 0 0 0 0 10", 21);
+        taken("empty 0", 1);
+        taken("empty 5", 1);
+        fault("empty 6", 6);
+        // There are no numbers below 0: the sign begins no token.
+        fault("old on -1", 7);
+        fault("old taste -1", 10);
+        fault("old fed -1", 8);
+        fault("page -1 0", 5);
+        fault("page 0 -1", 7);
+        fault("empty -1", 6);
+        // Numbers that would wrap around to one that is as told.
+        for (String wraps : new String[] {"256", "1000", "65536", "4294967296", "4294967297", "18446744073709551617"}) {
+            fault("old on " + wraps, 7);
+            fault("old taste " + wraps, 10);
+            fault("page 0 " + wraps, 7);
+            fault("empty " + wraps, 6);
+        }
+        fault("old fed 4294967296", 8);
+        fault("old fed 18446744073709551616", 8);
+    }
+
+    private static void taken(String text, int items) {
+        due.is(text, Scenes.read(new MothTongue(), text), items);
+    }
+
+    /** Between a moth and what ends it, each byte is a blank, or part of the word, or begins a token or none. */
+    private static void everyByte() {
+        for (int b = 0; b < 256; b++) {
+            String text = "old" + (char) b + ";empty 1";
+            boolean isLetter = b >= 'a' && b <= 'z';
+            int due0 = b == ' ' ? 2 : isLetter ? -1 : b == ';' ? -5 : -4;
+            due.is("byte " + b + " behind a moth", Scenes.read(new MothTongue(), text), due0);
+            String number = "page 1 " + (char) b;
+            boolean isDigit = b >= '0' && b <= '9';
+            due.is("byte " + b + " as a word", Scenes.read(new MothTongue(), number), isDigit ? 1 : b == ' ' ? -9 : -8);
+        }
     }
 }
