@@ -154,6 +154,10 @@ final class LightsTest {
             due.is("word of page 5 with " + moths, x.reads(5, 7), moths > 6 ? 9 - moths + 1 : 9 - moths);
             due.is("z with " + moths, x.count(6), (int) 2524885223L);
             due.is("NIGHT with " + moths, x.now(0), 1);
+            if (moths < 8) {
+                due.is("the next moth", x.moth(0, 3), moths);
+                due.is("the draws had nothing to do with it", x.of(moths, 1), 3);
+            }
         }
     }
 }
