@@ -1,8 +1,8 @@
 /**
  * A drawer of pages with moths shut in: what the moths eat leaves other words, or holes.
  *
- * <p>The drawer that lives is one object; all that only looks ahead is played on another one, made
- * once with this object and used again, so that no call makes anything.
+ * <p>The drawer that lives is one object; all that only looks ahead is played on others, made once
+ * with this object and used again, so that no call makes anything.
  */
 public final class MothTongue {
     private static final int LOW = -1000001;
@@ -615,14 +615,17 @@ public final class MothTongue {
     private int fewestNights(int awaited, int a, int b) {
         trial.become(live);
         for (int n = 0; n <= MOST_NIGHTS_AWAITED; n++) {
+            morrow.become(trial);
+            morrow.passNights(1, ALL_IN);
             if (hasCome(awaited, a, b)) {
                 return n;
             }
-            trial.passNights(1, ALL_IN);
+            trial.become(morrow);
         }
         return finding(NONE);
     }
 
+    /** Whether the trial has what is awaited; the morrow is one night behind it. */
     private boolean hasCome(int awaited, int a, int b) {
         switch (awaited) {
             case BARE:
@@ -630,8 +633,6 @@ public final class MothTongue {
             case SAYING:
                 return trial.saidBy(a) == b;
             case STILL:
-                morrow.become(trial);
-                morrow.passNights(1, ALL_IN);
                 return morrow.hasPagesOf(trial);
             default:
                 return trial.unlikePlaces(a, b) == 0;

@@ -2,6 +2,8 @@ import java.io.IOException;
 import java.nio.charset.StandardCharsets;
 import java.nio.file.Files;
 import java.nio.file.Path;
+import java.util.LinkedHashMap;
+import java.util.Map;
 import java.util.regex.Matcher;
 import java.util.regex.Pattern;
 
@@ -28,6 +30,7 @@ final class LanguageTest {
         madeOnce(code);
         staticFields(code);
         shortMethods(code);
+        shallowCalls(code);
         due.end();
     }
 
@@ -81,5 +84,66 @@ final class LanguageTest {
         }
         due.isTrue("methods were found: " + heads, heads > 42);
         due.isTrue("at most twelve classes", code.split("\\bclass\\b").length - 1 <= 12);
+    }
+
+    /** Rule 11: calls go at most eight deep, the library's own among them; one is kept in hand. */
+    private static void shallowCalls(String code) {
+        Map<String, String> bodies = bodies(code);
+        for (String call : Calls.FACE) {
+            String name = call.split(" ")[0];
+            due.isTrue("found: " + name, bodies.containsKey("MothTongue." + name));
+            int depth = depth(bodies, "MothTongue." + name, 1);
+            due.isTrue(name + " goes " + depth + " deep", depth <= 7);
+        }
+        due.isTrue("what nights bring lies deep", depth(bodies, "MothTongue.says", 1) > 5);
+        due.isTrue("what texts tell lies deep", depth(bodies, "MothTongue.text", 1) > 5);
+    }
+
+    /** Each method's lines, by its class and name; no name stands for two methods of a class. */
+    private static Map<String, String> bodies(String code) {
+        Map<String, String> bodies = new LinkedHashMap<>();
+        String inside = "MothTongue";
+        String method = null;
+        for (String line : code.split("\n")) {
+            Matcher head = Pattern.compile("( {4}| {8})[a-z][^=;(]* (\\w+)\\(.*\\) \\{").matcher(line);
+            Matcher nested = Pattern.compile(" {4}private static final class (\\w+) \\{").matcher(line);
+            if (nested.matches()) {
+                inside = nested.group(1);
+            } else if (method == null && head.matches()) {
+                method = inside + "." + head.group(2);
+                due.isTrue("one of its name: " + method, bodies.put(method, "") == null);
+            } else if (method != null && line.matches(inside.equals("MothTongue") ? " {4}\\}" : " {8}\\}")) {
+                method = null;
+            } else if (method != null) {
+                bodies.merge(method, line + "\n", String::concat);
+            }
+        }
+        return bodies;
+    }
+
+    private static int depth(Map<String, String> bodies, String method, int open) {
+        int deepest = open;
+        Matcher call = Pattern.compile("(\\w+\\.|\\.|\\b)(\\w+)\\(").matcher(bodies.getOrDefault(method, ""));
+        while (open < 40 && call.find()) {
+            for (String called : called(bodies, method, call.group(1), call.group(2))) {
+                deepest = Math.max(deepest, depth(bodies, called, open + 1));
+            }
+        }
+        return deepest;
+    }
+
+    /** Which methods a call may mean: behind an object's dot any class's, as long as it isn't told. */
+    private static String[] called(Map<String, String> bodies, String from, String before, String name) {
+        if (bodies.containsKey(before + name)) {
+            return new String[] {before + name};
+        }
+        if (before.isEmpty()) {
+            String own = from.replaceAll("\\..*", "." + name);
+            return new String[] {bodies.containsKey(own) ? own : "MothTongue." + name};
+        }
+        String[] all = bodies.keySet().stream()
+                .filter(m -> m.endsWith("." + name) && !m.startsWith("MothTongue.") && !m.startsWith("Kinds."))
+                .toArray(String[]::new);
+        return all.length > 0 ? all : new String[] {"library." + name};
     }
 }
